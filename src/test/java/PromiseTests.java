@@ -45,6 +45,7 @@ public final class PromiseTests {
         earliest();
         days();
         daysPaid();
+        daysByHand();
         daysRefused();
         image();
         restore();
@@ -196,6 +197,12 @@ public final class PromiseTests {
             check.due("count(" + what + ")", x.count(what), counts[what]);
         }
         check.due("person(1, 1, 1)", x.person(1, 1, 1), 0);
+        EarlyGauge four = Check.station(EVEN);
+        four.reading(1);
+        Check.type(four, EVEN);
+        four.station();
+        check.due("told(4)", four.told(4), NONE);
+        check.due("ways()", four.ways(), 729);
     }
 
     private static void follows() {
@@ -555,6 +562,8 @@ public final class PromiseTests {
         right.day(0);
         right.reading(2);
         check.due("ways(), two days of one", right.ways(), 81);
+        // Rare days can be as well.
+        check.due("ways(), by one tenth", Check.station("811/811/811;10").ways(), 729);
         // Of NEVER, with wet on the third: x y 1, of dry: 1 0 1, 1 2 1, 2 0 1, then 8.
         EarlyGauge never = Check.station(NEVER);
         never.reading(1);
@@ -778,6 +787,56 @@ public final class PromiseTests {
         }
     }
 
+    private static void daysByHand() {
+        check.part("promise 22, by hand");
+        int[][] tenths = {{1, 7, 2}, {3, 2, 5}, {6, 3, 1}};
+        for (int slip = 0; slip <= 9; slip += 3) {
+            for (int seed = 0; seed < 20; seed++) {
+                int[] hand = byHand(tenths, slip, seed);
+                EarlyGauge x = Check.station("172/325/631;1" + slip);
+                for (int kind = 0; kind < 4; kind++) {
+                    int other = kind == 3 ? 4 : kind;
+                    EarlyGauge alone = Check.station("172/325/631;1" + slip);
+                    alone.person(other, 4, 7);
+                    x.person(other, 4, 7);
+                    check.due("days(30, " + seed + ", 1), kind " + other, alone.days(30, seed, 1), hand[3 + kind]);
+                }
+                check.due("days(30, " + seed + ", 0)", x.days(30, seed, 0), hand[0]);
+                check.due("days(30, " + seed + ", 2)", x.days(30, seed, 2), hand[1]);
+                check.due("days(30, " + seed + ", 3)", x.days(30, seed, 3), hand[2]);
+                check.due("days(30, " + seed + ", 1), all", x.days(30, seed, 1),
+                        hand[3] + hand[4] + hand[5] + hand[6]);
+            }
+        }
+    }
+
+    /** With EARLY 1: how many were wet, slipped, the seed, what a keeper, farmer, miser and knees paid. */
+    private static int[] byHand(int[][] tenths, int slip, int firstSeed) {
+        int[] answer = new int[7];
+        long seed = firstSeed;
+        int now = 0;
+        for (int day = 0; day < 30; day++) {
+            seed = (seed * 1103515245L + 12345L) & 0x7fffffffL;
+            long draw = (seed >> 16) % 10;
+            int next = draw < tenths[now][0] ? 0 : draw < tenths[now][0] + tenths[now][1] ? 1 : 2;
+            seed = (seed * 1103515245L + 12345L) & 0x7fffffffL;
+            boolean slips = (seed >> 16) % 10 < slip;
+            int told = slips ? (next + 1) % 3 : next;
+            int right = tenths[now][told] * (10 - slip);
+            int slipped = tenths[now][(told + 2) % 3] * slip;
+            int wet = told == 1 ? right : told == 2 ? slipped : 0;
+            boolean[] cover = {told == 1, 7 * wet > 4 * (right + slipped), wet == right + slipped, told != 1};
+            for (int i = 0; i < 4; i++) {
+                answer[3 + i] += cover[i] ? 4 : next == 1 ? 7 : 0;
+            }
+            answer[0] += next == 1 ? 1 : 0;
+            answer[1] += slips ? 1 : 0;
+            now = next;
+        }
+        answer[2] = (int) seed;
+        return answer;
+    }
+
     private static void daysRefused() {
         check.part("promise 22, refused");
         for (EarlyGauge any : new EarlyGauge[] {Check.station(EVEN), new EarlyGauge()}) {
@@ -842,6 +901,20 @@ public final class PromiseTests {
         check.due("restore(), again", x.restore(), 1);
         check.unchanged("restore(), again", x, before);
         check.due("wrong(0)", x.wrong(0), 1);
+        EarlyGauge four = Check.station(EVEN);
+        four.reading(1);
+        four.book(0, 1);
+        four.book(2, 0);
+        four.image();
+        four.reading(2);
+        four.forget();
+        four.book(1, 0);
+        four.book(1, 1);
+        four.restore();
+        check.due("told(4)", four.told(4), 1);
+        check.due("count(7)", four.count(7), 2);
+        check.due("wrong(0)", four.wrong(0), 2);
+        check.due("wrong(1)", four.wrong(1), 1);
         // The page is no part of it.
         x.letter(65);
         x.restore();
@@ -907,18 +980,24 @@ public final class PromiseTests {
         long h = Check.fold(821, 1, 0, 0, 0, 0, 1, '1', '~', 0, 0, 0, 0, 0, 0, 0, 2, 2, 0);
         check.due("digest(), no station", page.digest(), h);
 
-        EarlyGauge x = Check.station("433/433/433;20");
+        digestWithStation("253/253/253;20", 243 + 162 + 27 + 9 + 3 + 1, 1, 5, 1, 2, 3, 10);
+        digestWithStation("433/433/433;20", 162, 2, 5, 3, 10, 3, 10);
+    }
+
+    private static void digestWithStation(String text, int likeliest, long... likely) {
+        EarlyGauge x = Check.station(text);
         x.person(0, 3, 4);
         x.person(3, 1, 2);
         x.day(0);
         x.reading(2);
         x.letter(65);
-        h = Check.fold(821, 0, 3, 4, 0, 0, 3, 1, 2, 1, 1);
+        long h = Check.fold(821, 0, 3, 4, 0, 0, 3, 1, 2, 1, 1);
         h = Check.fold(h, NONE, 2, NONE, NONE);
-        h = Check.fold(h, 2, 5, 3, 10, 3, 10, 2, 5, 3, 10, 3, 10);
-        // LIKELIEST 0 2 0 0 0 0; a look at COST 2, LOSS 5 is worth 1.5 less 0.6.
-        h = Check.fold(h, 2 * 81, 243, NONE, 9, 10);
+        h = Check.fold(Check.fold(h, likely), likely);
+        h = Check.fold(h, likeliest, 243, NONE);
+        // A look at COST 2, LOSS 5: by wet 5 of 10 it is worth 2 less 1, by 3 of 10 1.5 less 0.6.
+        h = likely[2] == 1 ? Check.fold(h, 1, 1) : Check.fold(h, 9, 10);
         h = Check.fold(h, 0, 0, 0, 0, 0, NONE, 65);
-        check.due("digest()", x.digest(), Check.fold(h, 2, 0, 1, 0, 1, 2, 1, 0, 1, 1));
+        check.due("digest() of " + text, x.digest(), Check.fold(h, 2, 0, 1, 0, 1, 2, 1, 0, 1, 1));
     }
 }
