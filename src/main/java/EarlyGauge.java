@@ -544,7 +544,8 @@ public final class EarlyGauge {
         }
 
         int tenthsFrom(int v, int w) {
-            return isWeather(v) && isWeather(w) ? tenths[v * WEATHERS + w] : 0;
+            boolean named = v >= 0 && v < WEATHERS && w >= 0 && w < WEATHERS;
+            return named ? tenths[v * WEATHERS + w] : 0;
         }
 
         /** What a READING (or NONE) adds to the ODDS of a DAY of that WEATHER, as a factor. */
