@@ -893,33 +893,51 @@ public final class BoundaryTests {
 
     private static void digestOfAllStates() {
         check.part("digest, of what the other calls tell, wrapping");
+        String[] pages = {"", "820/09", "", "1900", "1900/901;1456789"};
         for (int state = States.NEW; state < States.ALL; state++) {
             EarlyGauge x = States.made(state);
-            long h = 821;
-            for (int i = 0; i < x.count(5); i++) {
-                for (int what = 0; what <= 4; what++) {
-                    h = Check.fold(h, x.about(i, what));
-                }
-            }
-            if (state >= States.READ) {
-                h = Check.fold(h, x.told(1), x.told(2), x.told(3), x.told(4));
-                for (int ahead = 1; ahead <= 6; ahead += 5) {
-                    for (int weather = 0; weather < 3; weather++) {
-                        h = Check.fold(h, x.likely(ahead, weather, 0), x.likely(ahead, weather, 1));
-                    }
-                }
-                h = Check.fold(h, x.likeliest(), x.ways(), x.sure(1), x.look(2, 5, 0), x.look(2, 5, 1));
-            }
-            h = Check.fold(h, x.wrong(0), x.wrong(1), x.wrong(2), x.wrong(3), x.wrong(4), x.earliest());
-            String page = new String[] {"", "820/09", "", "1900", "1900/901;1456789"}[state];
-            for (int i = 0; i < page.length(); i++) {
-                h = Check.fold(h, page.charAt(i));
-            }
-            for (int what = 0; what <= 9; what++) {
-                h = Check.fold(h, x.count(what));
-            }
-            check.due("digest(), " + States.NAMES[state], x.digest(), h);
+            long due = digestByItsCalls(x, state >= States.READ, pages[state]);
+            check.due("digest(), " + States.NAMES[state], x.digest(), due);
         }
+        // Of a station whose days differ each from each, so that no number stands for another.
+        EarlyGauge x = Check.station("172/325/631;32");
+        x.person(1, 4, 7);
+        x.reading(WET);
+        for (int day = 0; day < 5; day++) {
+            check.due("digest(), day " + day, x.digest(), digestByItsCalls(x, true, "~ ".substring(0, day % 3)));
+            check.holds("likely(5) is not likely(6)", x.likely(5, WET, 1) != x.likely(6, WET, 1));
+            x.day(day % 2 + 1);
+            x.reading(day % 3);
+            x.book(day % 3, (day + 2) % 3);
+            x.blank();
+            Check.type(x, "~ ".substring(0, (day + 1) % 3));
+        }
+    }
+
+    private static long digestByItsCalls(EarlyGauge x, boolean read, String page) {
+        long h = 821;
+        for (int i = 0; i < x.count(5); i++) {
+            for (int what = 0; what <= 4; what++) {
+                h = Check.fold(h, x.about(i, what));
+            }
+        }
+        if (read) {
+            h = Check.fold(h, x.told(1), x.told(2), x.told(3), x.told(4));
+            for (int ahead = 1; ahead <= 6; ahead += 5) {
+                for (int weather = 0; weather < 3; weather++) {
+                    h = Check.fold(h, x.likely(ahead, weather, 0), x.likely(ahead, weather, 1));
+                }
+            }
+            h = Check.fold(h, x.likeliest(), x.ways(), x.sure(1), x.look(2, 5, 0), x.look(2, 5, 1));
+        }
+        h = Check.fold(h, x.wrong(0), x.wrong(1), x.wrong(2), x.wrong(3), x.wrong(4), x.earliest());
+        for (int i = 0; i < page.length(); i++) {
+            h = Check.fold(h, page.charAt(i));
+        }
+        for (int what = 0; what <= 9; what++) {
+            h = Check.fold(h, x.count(what));
+        }
+        return h;
     }
 
     private static void lifetime() {

@@ -436,6 +436,14 @@ public final class PromiseTests {
         sure.reading(2);
         // Frost in two days is only by wet; no reading tells of the next day itself.
         covering(sure, "sure", 1, 0, 1, 0);
+        // Surely wet, but by no reading of that day: a keeper does not see it.
+        EarlyGauge unseen = Check.station("820/091/505;20");
+        unseen.person(0, 1, 1);
+        unseen.person(3, 1, 1);
+        unseen.person(4, 1, 1);
+        unseen.reading(2);
+        check.due("sure(1)", unseen.sure(1), 1);
+        covering(unseen, "surely wet, not told", 0, 1, 0);
         EarlyGauge dry = Check.station("802/091/505;10");
         dry.person(2, 1, 9);
         dry.reading(2);
@@ -866,9 +874,12 @@ public final class PromiseTests {
         x.day(2);
         check.due("restore(), the latest", x.restore(), 2);
         check.due("count(3)", x.count(3), 1);
+        // The page is not taken away by it.
+        Check.type(x, "433/4");
         long before = x.digest();
         x.image();
         check.unchanged("image()", x, before);
+        check.due("count(8)", x.count(8), 5);
     }
 
     private static void restore() {
